@@ -551,7 +551,7 @@ public final class GrievanceOmbud {
             if (next == ASKED) {
                 pausedSince = day;
             }
-            if (isClosing(next)) {
+            if (CLOSED_STATES.indexOf(next) >= 0) {
                 closedDay = day;
             }
             state = next;
@@ -639,7 +639,7 @@ public final class GrievanceOmbud {
                     return tellOfReason(one);
                 case STEP_TAKEN:
                     one.stepDay = day;
-                    return day + offices[one.office].days;
+                    return day + officeOf(one).days;
                 default:
                     one.moveTo(intakeOf(one), day);
                     return one.state;
@@ -671,7 +671,7 @@ public final class GrievanceOmbud {
                     one.finding.accepted = value == 1;
                     return one.finding.heedBy;
                 case REMEDY_HEEDED:
-                    offices[one.office].remediesHeeded += moveAll(one, HEEDED);
+                    officeOf(one).remediesHeeded += moveAll(one, HEEDED);
                     return one.finding.heedBy - day;
                 case FOLLOWED_UP:
                     return insist(one);
@@ -722,7 +722,7 @@ public final class GrievanceOmbud {
         }
 
         private char intakeOf(Complaint one) {
-            Office office = offices[one.office];
+            Office office = officeOf(one);
             if ((office.matters >> one.matter & 1) == 0 || one.atCourt) {
                 return OUTSIDE;
             }
@@ -736,7 +736,7 @@ public final class GrievanceOmbud {
         }
 
         private int putToOffice(Complaint one) {
-            one.inquiry.begin(day + offices[one.office].days);
+            one.inquiry.begin(day + officeOf(one).days);
             moveAll(one, ASKED);
             return one.inquiry.due;
         }
@@ -779,7 +779,7 @@ public final class GrievanceOmbud {
             }
             int sum = weightOf(heads) + Math.min(followersOf(one), JOINED_SUM_LIMIT);
             one.finding.recommend(remedyFor(sum), day);
-            offices[one.office].remediesTold += moveAll(one, DECIDED);
+            officeOf(one).remediesTold += moveAll(one, DECIDED);
             return one.finding.remedy;
         }
 
@@ -797,7 +797,8 @@ public final class GrievanceOmbud {
             int freed = 0;
             for (int i = 0; i < complaintCount; i++) {
                 if (i != one.number && complaints[i].lead == one.number) {
-                    setFree(complaints[i]);
+                    complaints[i].lead = i;
+                    complaints[i].moveTo(RECEIVED, day);
                     freed++;
                 }
             }
@@ -821,6 +822,10 @@ public final class GrievanceOmbud {
 
         private Complaint leadOf(Complaint one) {
             return one.lead >= 0 && one.lead < complaintCount ? complaints[one.lead] : one;
+        }
+
+        private Office officeOf(Complaint one) {
+            return one.office >= 0 && one.office < officeCount ? offices[one.office] : offices[0];
         }
 
         private int followersOf(Complaint ahead) {

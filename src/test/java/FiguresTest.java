@@ -17,7 +17,10 @@ public final class FiguresTest {
         promise35();
         promise36();
         promise37();
+        promise37ToldOverAndOver();
         promise37Tampered();
+        promise37TamperedTwice();
+        fullHouse();
         limits();
         CHECK.end();
     }
@@ -222,6 +225,42 @@ public final class FiguresTest {
         CHECK.is("37: changes nothing", Check.dump(y), before);
     }
 
+    /** What is told last must not be there yet when all is told again from the beginning. */
+    private static void promise37ToldOverAndOver() {
+        GrievanceOmbud x = Scene.decided(5, 2, 31);
+        sound("a finding", x);
+        for (int head = 0; head < 5; head++) {
+            x.setWeight(head, 9);
+        }
+        sound("weights set behind the finding", x);
+        x.complain(0, 0, 0, 0);
+        x.examine(2);
+        x.setCourt(2, true);
+        sound("a court behind the intake", x);
+        x.setCourt(2, false);
+        x.takeStep(2);
+        x.excuse(2);
+        sound("a first step behind the intake", x);
+        x.accept(0, true);
+        x.pass(61);
+        x.followUp(0);
+        sound("followed up", x);
+        x.examine(2);
+        x.ask(2);
+        x.extend(2, 30);
+        x.pass(36);
+        x.remind(2);
+        sound("asked", x);
+        x.heed(0);
+        x.withdraw(2);
+        sound("closed", x);
+    }
+
+    private static void sound(String when, GrievanceOmbud x) {
+        CHECK.is("37: " + when, x.isSound(), true);
+        CHECK.is("37: " + when + ", once more", x.isSound(), true);
+    }
+
     /** The face leads to no unsound object, so each rule is broken from behind. */
     private static void promise37Tampered() throws ReflectiveOperationException {
         String[] numbers = {"office", "matter", "person", "happened", "toldDay", "stepDay", "closedDay",
@@ -233,6 +272,7 @@ public final class FiguresTest {
                 CHECK.is("37: " + name + " of " + complaint, x.isSound(), false);
             }
         }
+        tamperedParts();
         GrievanceOmbud x = Scene.studied(5, 2);
         set(row(x, "complaints", 1), "state", 'r');
         CHECK.is("37: a joined one stands elsewhere", x.isSound(), false);
@@ -252,6 +292,72 @@ public final class FiguresTest {
         GrievanceOmbud v = new GrievanceOmbud();
         Array.set(get(get(v, "book"), "weights"), 4, 2);
         CHECK.is("37: a weight", v.isSound(), false);
+    }
+
+    private static void tamperedParts() throws ReflectiveOperationException {
+        String[] numbers = {"inquiry.due", "inquiry.reminders", "finding.heads", "finding.remedy", "finding.heedBy"};
+        for (String name : numbers) {
+            tamperPart(name, 77);
+        }
+        String[] signs = {"inquiry.extended", "inquiry.silent", "finding.followed", "finding.acceptanceTold",
+            "finding.accepted"};
+        for (String name : signs) {
+            tamperPart(name, true);
+        }
+    }
+
+    private static void tamperPart(String name, Object value) throws ReflectiveOperationException {
+        int dot = name.indexOf('.');
+        GrievanceOmbud x = Scene.decided(5, 1, 0);
+        set(get(row(x, "complaints", 0), name.substring(0, dot)), name.substring(dot + 1), value);
+        CHECK.is("37: " + name, x.isSound(), false);
+    }
+
+    /** The event is changed along with what stands, so that only the look at leads can tell. */
+    private static void promise37TamperedTwice() throws ReflectiveOperationException {
+        for (String name : new String[] {"office", "matter"}) {
+            GrievanceOmbud x = new GrievanceOmbud();
+            x.addOffice(5, 1023);
+            x.addOffice(5, 1023);
+            x.complain(0, 0, 0, 0);
+            x.complain(0, 0, 1, 0);
+            x.takeStep(0);
+            x.takeStep(1);
+            x.pass(5);
+            x.examine(0);
+            x.examine(1);
+            x.join(1, 0);
+            set(row(x, "complaints", 1), name, 1);
+            int at = 3 * 5 + (name.equals("office") ? 1 : 2);
+            Array.set(get(get(x, "events"), "rows"), at, 1);
+            CHECK.is("37: another " + name + " than the lead's", x.isSound(), false);
+        }
+    }
+
+    /** Six offices and twenty complaints: no loop may go beyond the last. */
+    private static void fullHouse() {
+        GrievanceOmbud x = Scene.received(5, 20);
+        for (int i = 1; i < 6; i++) {
+            x.addOffice(5, 1);
+        }
+        for (int i = 0; i < 19; i++) {
+            CHECK.is("full: joined", x.join(i, 19), i + 1);
+        }
+        CHECK.is("full: received", x.countState('r'), 20);
+        CHECK.is("full: one of the last person", x.countOf(19), 1);
+        CHECK.is("full: asked", x.ask(19), 10);
+        CHECK.is("full: next", x.nextDue(), 10);
+        x.answer(19);
+        CHECK.is("full: 5 at most", x.find(19, 1), 2);
+        CHECK.is("full: left", x.heed(19), 60);
+        CHECK.is("full: share", x.heededShare(0), 1f);
+        CHECK.is("full: mean", x.meanDays(), 5.0);
+        CHECK.is("full: sound", x.isSound(), true);
+        GrievanceOmbud y = Scene.received(5, 20);
+        for (int i = 0; i < 19; i++) {
+            y.join(i, 19);
+        }
+        CHECK.is("full: freed", y.withdraw(19), 19);
     }
 
     /** Far more calls than an object is used for: their answers are free, but none may throw by itself. */

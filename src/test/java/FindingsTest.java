@@ -122,6 +122,10 @@ public final class FindingsTest {
         y.setWeight(0, 9);
         CHECK.is("25: head 0 counts", y.find(0, 2), 3);
         CHECK.is("25: both heads", y.heads(0), 3);
+        GrievanceOmbud w = Scene.silent(5, 1);
+        w.takeSilence(0);
+        w.find(0, 5);
+        CHECK.is("25: head 0 told besides", w.heads(0), 5);
         GrievanceOmbud z = Scene.silent(5, 1);
         z.answer(0);
         CHECK.is("25: an answer behind three reminders is no silence", z.find(0, 0), 0);
@@ -311,6 +315,11 @@ public final class FindingsTest {
         CHECK.is("32: can be joined again", x.join(2, 3), 1);
         CHECK.is("32: can be asked about", x.ask(3), 10);
         CHECK.is("32: sound", x.isSound(), true);
+        GrievanceOmbud z = Scene.received(5, 3);
+        z.join(0, 2);
+        z.join(1, 2);
+        CHECK.is("32: those ahead of the lead, too", z.withdraw(2), 2);
+        CHECK.is("32: the first leads itself", z.lead(0), 0);
         GrievanceOmbud y = Scene.asked(5, 3);
         y.join(2, 0);
         CHECK.is("32: one of two received anew", y.withdraw(0), 1);

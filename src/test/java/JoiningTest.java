@@ -148,6 +148,9 @@ public final class JoiningTest {
         CHECK.is("23: one", x.countJoined(0), 1);
         x.withdraw(0);
         CHECK.is("23: none behind a withdrawal", x.countJoined(0), 0);
+        GrievanceOmbud z = Scene.received(5, 2);
+        CHECK.is("23: the first one joined to the last", z.join(0, 1), 1);
+        CHECK.is("23: one, ahead of it", z.countJoined(1), 1);
         GrievanceOmbud y = Scene.decided(5, 3, 0);
         CHECK.is("23: still two when closed", y.countJoined(0), 2);
     }

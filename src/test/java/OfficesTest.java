@@ -157,6 +157,9 @@ public final class OfficesTest {
         x.setCourt(1, true);
         x.examine(1);
         CHECK.fails("8: closed", x, NOT_SO, () -> x.takeStep(1));
+        x.complain(0, 0, 0, 0);
+        x.withdraw(2);
+        CHECK.fails("8: closed without one", x, NOT_SO, () -> x.takeStep(2));
     }
 
     private static void promise9Order() {
