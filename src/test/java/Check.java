@@ -65,8 +65,9 @@ final class Check {
     }
 
     private static void dump(Object x, StringBuilder text) {
-        if (x == null || x instanceof Number || x instanceof Boolean || x instanceof Character
-                || x instanceof String) {
+        if (x instanceof Character) {
+            text.append((int) (Character) x).append(' ');
+        } else if (x == null || x instanceof Number || x instanceof Boolean || x instanceof String) {
             text.append(x).append(' ');
         } else if (x.getClass().isArray()) {
             text.append('[');
