@@ -1,9 +1,23 @@
 import java.lang.reflect.Array;
 import java.lang.reflect.Field;
 import java.lang.reflect.Modifier;
+import java.util.ArrayList;
+import java.util.Arrays;
+import java.util.HashMap;
+import java.util.List;
+import java.util.Map;
+import java.util.NoSuchElementException;
 
 /** Counts the answers of one test program, prints those that are not due, and ends it. */
 final class Check {
+    static final Class<IndexOutOfBoundsException> NO_SUCH = IndexOutOfBoundsException.class;
+    static final Class<IllegalArgumentException> RANGE = IllegalArgumentException.class;
+    static final Class<IllegalStateException> FULL = IllegalStateException.class;
+    static final Class<UnsupportedOperationException> NOT_SO = UnsupportedOperationException.class;
+    static final Class<NoSuchElementException> NONE = NoSuchElementException.class;
+    static final Class<ArithmeticException> NONE_TO_DIVIDE_BY = ArithmeticException.class;
+    private static final Map<Class<?>, List<Field>> FIELDS = new HashMap<>();
+
     private final String title;
     private int asked;
     private int wrong;
@@ -69,6 +83,8 @@ final class Check {
             text.append((int) (Character) x).append(' ');
         } else if (x == null || x instanceof Number || x instanceof Boolean || x instanceof String) {
             text.append(x).append(' ');
+        } else if (x instanceof int[]) {
+            text.append(Arrays.toString((int[]) x));
         } else if (x.getClass().isArray()) {
             text.append('[');
             for (int i = 0; i < Array.getLength(x); i++) {
@@ -77,19 +93,30 @@ final class Check {
             text.append(']');
         } else {
             text.append('{');
-            for (Field field : x.getClass().getDeclaredFields()) {
-                if (!Modifier.isStatic(field.getModifiers())) {
-                    text.append(field.getName()).append('=');
-                    dump(get(field, x), text);
-                }
+            for (Field field : fieldsOf(x.getClass())) {
+                text.append(field.getName()).append('=');
+                dump(get(field, x), text);
             }
             text.append('}');
         }
     }
 
+    /** Kept, since each refused call is looked at twice and asking a class for its fields copies them. */
+    private static List<Field> fieldsOf(Class<?> type) {
+        return FIELDS.computeIfAbsent(type, unknown -> {
+            List<Field> fields = new ArrayList<>();
+            for (Field field : unknown.getDeclaredFields()) {
+                if (!Modifier.isStatic(field.getModifiers())) {
+                    field.setAccessible(true);
+                    fields.add(field);
+                }
+            }
+            return fields;
+        });
+    }
+
     private static Object get(Field field, Object x) {
         try {
-            field.setAccessible(true);
             return field.get(x);
         } catch (IllegalAccessException e) {
             throw new IllegalStateException(e);

@@ -4,8 +4,6 @@ import java.util.NoSuchElementException;
 
 /** Promises 33 to 37: clocks, shares, the mean, the checksum and soundness. */
 public final class FiguresTest {
-    private static final Class<IndexOutOfBoundsException> NO_SUCH = IndexOutOfBoundsException.class;
-    private static final Class<ArithmeticException> NONE_YET = ArithmeticException.class;
     private static final Check CHECK = new Check("FiguresTest");
 
     public static void main(String[] args) throws ReflectiveOperationException {
@@ -29,8 +27,8 @@ public final class FiguresTest {
         GrievanceOmbud x = Scene.office(10);
         x.pass(4);
         x.complain(0, 0, 0, 0);
-        CHECK.fails("33: -1", x, NO_SUCH, () -> x.days(-1));
-        CHECK.fails("33: 1", x, NO_SUCH, () -> x.days(1));
+        CHECK.fails("33: -1", x, Check.NO_SUCH, () -> x.days(-1));
+        CHECK.fails("33: 1", x, Check.NO_SUCH, () -> x.days(1));
         CHECK.is("33: none on the first", x.days(0), 0);
         x.takeStep(0);
         x.pass(10);
@@ -110,8 +108,8 @@ public final class FiguresTest {
         for (int i = 0; i < 7; i++) {
             x.examine(i);
         }
-        CHECK.fails("34: -1", x, NO_SUCH, () -> x.heededShare(-1));
-        CHECK.fails("34: 2", x, NO_SUCH, () -> x.heededShare(2));
+        CHECK.fails("34: -1", x, Check.NO_SUCH, () -> x.heededShare(-1));
+        CHECK.fails("34: 2", x, Check.NO_SUCH, () -> x.heededShare(2));
         x.join(1, 0);
         for (int i = 0; i < 7; i++) {
             if (i != 1) {
@@ -120,10 +118,10 @@ public final class FiguresTest {
             }
         }
         x.find(5, 0);
-        CHECK.fails("34: unfounded is no remedy", x, NONE_YET, () -> x.heededShare(0));
+        CHECK.fails("34: unfounded is no remedy", x, Check.NONE_TO_DIVIDE_BY, () -> x.heededShare(0));
         x.find(0, 1);
         CHECK.is("34: none heeded", x.heededShare(0), 0f);
-        CHECK.fails("34: none told to another", x, NONE_YET, () -> x.heededShare(1));
+        CHECK.fails("34: none told to another", x, Check.NONE_TO_DIVIDE_BY, () -> x.heededShare(1));
         x.find(2, 1);
         x.heed(2);
         CHECK.is("34: one of three", x.heededShare(0), 1f / 3f);
@@ -156,7 +154,7 @@ public final class FiguresTest {
 
     private static void promise35() {
         GrievanceOmbud x = Scene.received(5, 5);
-        CHECK.fails("35: none closed", x, NONE_YET, x::meanDays);
+        CHECK.fails("35: none closed", x, Check.NONE_TO_DIVIDE_BY, x::meanDays);
         x.withdraw(0);
         CHECK.is("35: one", x.meanDays(), 5.0);
         x.pass(3);

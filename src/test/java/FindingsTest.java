@@ -1,11 +1,5 @@
-import java.util.NoSuchElementException;
-
 /** Promises 24 to 32: weights, findings, remedies, heeding and withdrawing. */
 public final class FindingsTest {
-    private static final Class<IndexOutOfBoundsException> NO_SUCH = IndexOutOfBoundsException.class;
-    private static final Class<IllegalArgumentException> RANGE = IllegalArgumentException.class;
-    private static final Class<UnsupportedOperationException> NOT_SO = UnsupportedOperationException.class;
-    private static final Class<NoSuchElementException> NONE = NoSuchElementException.class;
     private static final Check CHECK = new Check("FindingsTest");
 
     public static void main(String[] args) {
@@ -29,10 +23,10 @@ public final class FindingsTest {
 
     private static void promise24() {
         GrievanceOmbud x = new GrievanceOmbud();
-        CHECK.fails("24: head -1", x, RANGE, () -> x.setWeight(-1, 1));
-        CHECK.fails("24: head 5", x, RANGE, () -> x.setWeight(5, 1));
-        CHECK.fails("24: weight 0", x, RANGE, () -> x.setWeight(0, 0));
-        CHECK.fails("24: weight 10", x, RANGE, () -> x.setWeight(4, 10));
+        CHECK.fails("24: head -1", x, Check.RANGE, () -> x.setWeight(-1, 1));
+        CHECK.fails("24: head 5", x, Check.RANGE, () -> x.setWeight(5, 1));
+        CHECK.fails("24: weight 0", x, Check.RANGE, () -> x.setWeight(0, 0));
+        CHECK.fails("24: weight 10", x, Check.RANGE, () -> x.setWeight(4, 10));
         for (int head = 0; head < 5; head++) {
             CHECK.is("24: first", x.setWeight(head, head + 5), 1);
         }
@@ -44,26 +38,26 @@ public final class FindingsTest {
 
     private static void promise25() {
         GrievanceOmbud x = Scene.received(5, 2);
-        CHECK.fails("25: received", x, NOT_SO, () -> x.find(0, 1));
+        CHECK.fails("25: received", x, Check.NOT_SO, () -> x.find(0, 1));
         x.join(1, 0);
         x.ask(0);
-        CHECK.fails("25: asked", x, NOT_SO, () -> x.find(0, 1));
+        CHECK.fails("25: asked", x, Check.NOT_SO, () -> x.find(0, 1));
         x.answer(0);
-        CHECK.fails("25: -1, ahead of range", x, NO_SUCH, () -> x.find(-1, 32));
-        CHECK.fails("25: 2", x, NO_SUCH, () -> x.find(2, 0));
-        CHECK.fails("25: heads -1", x, RANGE, () -> x.find(0, -1));
-        CHECK.fails("25: heads 32", x, RANGE, () -> x.find(0, 32));
-        CHECK.fails("25: range ahead of joined", x, RANGE, () -> x.find(1, 32));
-        CHECK.fails("25: joined", x, NOT_SO, () -> x.find(1, 1));
+        CHECK.fails("25: -1, ahead of range", x, Check.NO_SUCH, () -> x.find(-1, 32));
+        CHECK.fails("25: 2", x, Check.NO_SUCH, () -> x.find(2, 0));
+        CHECK.fails("25: heads -1", x, Check.RANGE, () -> x.find(0, -1));
+        CHECK.fails("25: heads 32", x, Check.RANGE, () -> x.find(0, 32));
+        CHECK.fails("25: range ahead of joined", x, Check.RANGE, () -> x.find(1, 32));
+        CHECK.fails("25: joined", x, Check.NOT_SO, () -> x.find(1, 1));
         CHECK.is("25: unfounded, though one is joined", x.find(0, 0), 0);
         CHECK.is("25: u", x.state(0), 'u');
         CHECK.is("25: joined one, too", x.state(1), 'u');
-        CHECK.fails("25: twice", x, NOT_SO, () -> x.find(0, 1));
-        CHECK.fails("25: range ahead of that", x, RANGE, () -> x.find(0, 32));
+        CHECK.fails("25: twice", x, Check.NOT_SO, () -> x.find(0, 1));
+        CHECK.fails("25: range ahead of that", x, Check.RANGE, () -> x.find(0, 32));
         GrievanceOmbud y = Scene.studied(5, 1);
         CHECK.is("25: decided", y.find(0, 16), 1);
         CHECK.is("25: d", y.state(0), 'd');
-        CHECK.fails("25: decided twice", y, NOT_SO, () -> y.find(0, 16));
+        CHECK.fails("25: decided twice", y, Check.NOT_SO, () -> y.find(0, 16));
     }
 
     private static void promise25Ladder() {
@@ -140,10 +134,10 @@ public final class FindingsTest {
 
     private static void promise26() {
         GrievanceOmbud x = Scene.studied(5, 2);
-        CHECK.fails("26: -1", x, NO_SUCH, () -> x.heads(-1));
-        CHECK.fails("26: 2", x, NO_SUCH, () -> x.heads(2));
-        CHECK.fails("26: none yet", x, NONE, () -> x.heads(0));
-        CHECK.fails("26: none yet, joined", x, NONE, () -> x.heads(1));
+        CHECK.fails("26: -1", x, Check.NO_SUCH, () -> x.heads(-1));
+        CHECK.fails("26: 2", x, Check.NO_SUCH, () -> x.heads(2));
+        CHECK.fails("26: none yet", x, Check.NONE, () -> x.heads(0));
+        CHECK.fails("26: none yet, joined", x, Check.NONE, () -> x.heads(1));
         x.find(0, 22);
         CHECK.is("26: heads", x.heads(0), 22);
         CHECK.is("26: joined", x.heads(1), 22);
@@ -155,14 +149,14 @@ public final class FindingsTest {
         GrievanceOmbud z = Scene.decided(5, 2, 9);
         z.withdraw(0);
         CHECK.is("26: a withdrawn one had a finding", z.heads(0), 9);
-        CHECK.fails("26: those received anew have none", z, NONE, () -> z.heads(1));
+        CHECK.fails("26: those received anew have none", z, Check.NONE, () -> z.heads(1));
     }
 
     private static void promise27() {
         GrievanceOmbud x = Scene.studied(5, 2);
-        CHECK.fails("27: -1", x, NO_SUCH, () -> x.remedy(-1));
-        CHECK.fails("27: 2", x, NO_SUCH, () -> x.remedy(2));
-        CHECK.fails("27: none yet", x, NONE, () -> x.remedy(0));
+        CHECK.fails("27: -1", x, Check.NO_SUCH, () -> x.remedy(-1));
+        CHECK.fails("27: 2", x, Check.NO_SUCH, () -> x.remedy(2));
+        CHECK.fails("27: none yet", x, Check.NONE, () -> x.remedy(0));
         x.find(0, 31);
         CHECK.is("27: remedy", x.remedy(0), 2);
         CHECK.is("27: joined", x.remedy(1), 2);
@@ -172,104 +166,104 @@ public final class FindingsTest {
         x.heed(0);
         CHECK.is("27: heeded", x.remedy(0), 3);
         GrievanceOmbud y = Scene.decided(5, 1, 0);
-        CHECK.fails("27: unfounded", y, NONE, () -> y.remedy(0));
+        CHECK.fails("27: unfounded", y, Check.NONE, () -> y.remedy(0));
         GrievanceOmbud z = Scene.decided(5, 2, 9);
         z.withdraw(0);
         CHECK.is("27: told stays told", z.remedy(0), 1);
-        CHECK.fails("27: those received anew have none", z, NONE, () -> z.remedy(1));
+        CHECK.fails("27: those received anew have none", z, Check.NONE, () -> z.remedy(1));
     }
 
     private static void promise28() {
         GrievanceOmbud x = Scene.studied(5, 2);
-        CHECK.fails("28: studied", x, NOT_SO, () -> x.accept(0, true));
+        CHECK.fails("28: studied", x, Check.NOT_SO, () -> x.accept(0, true));
         x.find(0, 31);
-        CHECK.fails("28: -1", x, NO_SUCH, () -> x.accept(-1, true));
-        CHECK.fails("28: 2", x, NO_SUCH, () -> x.accept(2, true));
-        CHECK.fails("28: joined", x, NOT_SO, () -> x.accept(1, true));
+        CHECK.fails("28: -1", x, Check.NO_SUCH, () -> x.accept(-1, true));
+        CHECK.fails("28: 2", x, Check.NO_SUCH, () -> x.accept(2, true));
+        CHECK.fails("28: joined", x, Check.NOT_SO, () -> x.accept(1, true));
         x.pass(4);
         CHECK.is("28: day", x.accept(0, true), 65);
-        CHECK.fails("28: twice", x, NOT_SO, () -> x.accept(0, false));
+        CHECK.fails("28: twice", x, Check.NOT_SO, () -> x.accept(0, false));
         x.pass(57);
         x.followUp(0);
         x.pass(91);
         CHECK.is("28: anew, though over its day", x.accept(0, false), 156);
-        CHECK.fails("28: twice anew", x, NOT_SO, () -> x.accept(0, false));
+        CHECK.fails("28: twice anew", x, Check.NOT_SO, () -> x.accept(0, false));
         x.followUp(0);
-        CHECK.fails("28: ignored", x, NOT_SO, () -> x.accept(0, true));
+        CHECK.fails("28: ignored", x, Check.NOT_SO, () -> x.accept(0, true));
         GrievanceOmbud y = Scene.decided(5, 1, 1);
         y.heed(0);
-        CHECK.fails("28: heeded", y, NOT_SO, () -> y.accept(0, true));
+        CHECK.fails("28: heeded", y, Check.NOT_SO, () -> y.accept(0, true));
     }
 
     private static void promise29() {
         GrievanceOmbud x = Scene.studied(5, 2);
-        CHECK.fails("29: -1", x, NO_SUCH, () -> x.isAccepted(-1));
-        CHECK.fails("29: 2", x, NO_SUCH, () -> x.isAccepted(2));
-        CHECK.fails("29: no remedy", x, NONE, () -> x.isAccepted(0));
+        CHECK.fails("29: -1", x, Check.NO_SUCH, () -> x.isAccepted(-1));
+        CHECK.fails("29: 2", x, Check.NO_SUCH, () -> x.isAccepted(2));
+        CHECK.fails("29: no remedy", x, Check.NONE, () -> x.isAccepted(0));
         x.find(0, 1);
-        CHECK.fails("29: nothing told", x, NONE, () -> x.isAccepted(0));
+        CHECK.fails("29: nothing told", x, Check.NONE, () -> x.isAccepted(0));
         x.accept(0, true);
         CHECK.is("29: accepted", x.isAccepted(0), true);
         CHECK.is("29: joined", x.isAccepted(1), true);
         x.pass(31);
         CHECK.is("29: over its day", x.isAccepted(0), true);
         x.followUp(0);
-        CHECK.fails("29: to be told anew", x, NONE, () -> x.isAccepted(0));
+        CHECK.fails("29: to be told anew", x, Check.NONE, () -> x.isAccepted(0));
         x.accept(0, false);
         CHECK.is("29: not accepted", x.isAccepted(1), false);
         x.pass(61);
         x.followUp(0);
         CHECK.is("29: ignored, told of the last remedy", x.isAccepted(0), false);
         GrievanceOmbud y = Scene.decided(5, 1, 0);
-        CHECK.fails("29: unfounded", y, NONE, () -> y.isAccepted(0));
+        CHECK.fails("29: unfounded", y, Check.NONE, () -> y.isAccepted(0));
     }
 
     private static void promise30() {
         GrievanceOmbud x = Scene.studied(5, 2);
-        CHECK.fails("30: studied", x, NOT_SO, () -> x.heed(0));
+        CHECK.fails("30: studied", x, Check.NOT_SO, () -> x.heed(0));
         x.find(0, 1);
-        CHECK.fails("30: -1", x, NO_SUCH, () -> x.heed(-1));
-        CHECK.fails("30: 2", x, NO_SUCH, () -> x.heed(2));
-        CHECK.fails("30: joined", x, NOT_SO, () -> x.heed(1));
+        CHECK.fails("30: -1", x, Check.NO_SUCH, () -> x.heed(-1));
+        CHECK.fails("30: 2", x, Check.NO_SUCH, () -> x.heed(2));
+        CHECK.fails("30: joined", x, Check.NOT_SO, () -> x.heed(1));
         x.pass(30);
         CHECK.is("30: on the day", x.heed(0), 0);
         CHECK.is("30: h", x.state(0), 'h');
         CHECK.is("30: joined one, too", x.state(1), 'h');
-        CHECK.fails("30: twice", x, NOT_SO, () -> x.heed(0));
+        CHECK.fails("30: twice", x, Check.NOT_SO, () -> x.heed(0));
         GrievanceOmbud y = Scene.decided(5, 1, 31);
         y.accept(0, false);
         y.pass(1);
         CHECK.is("30: not accepted", y.heed(0), 59);
         GrievanceOmbud z = Scene.decided(5, 1, 1);
         z.pass(31);
-        CHECK.fails("30: over its day", z, NOT_SO, () -> z.heed(0));
+        CHECK.fails("30: over its day", z, Check.NOT_SO, () -> z.heed(0));
         z.followUp(0);
         CHECK.is("30: followed up", z.heed(0), 60);
     }
 
     private static void promise31() {
         GrievanceOmbud x = Scene.studied(5, 2);
-        CHECK.fails("31: studied", x, NOT_SO, () -> x.followUp(0));
+        CHECK.fails("31: studied", x, Check.NOT_SO, () -> x.followUp(0));
         x.find(0, 1);
-        CHECK.fails("31: -1", x, NO_SUCH, () -> x.followUp(-1));
-        CHECK.fails("31: 2", x, NO_SUCH, () -> x.followUp(2));
+        CHECK.fails("31: -1", x, Check.NO_SUCH, () -> x.followUp(-1));
+        CHECK.fails("31: 2", x, Check.NO_SUCH, () -> x.followUp(2));
         x.pass(30);
-        CHECK.fails("31: on the day", x, NOT_SO, () -> x.followUp(0));
+        CHECK.fails("31: on the day", x, Check.NOT_SO, () -> x.followUp(0));
         x.pass(1);
-        CHECK.fails("31: joined", x, NOT_SO, () -> x.followUp(1));
+        CHECK.fails("31: joined", x, Check.NOT_SO, () -> x.followUp(1));
         CHECK.is("31: a step higher", x.followUp(0), 2);
         CHECK.is("31: decided still", x.state(0), 'd');
         CHECK.is("31: days anew", x.nextDue(), 96);
-        CHECK.fails("31: not over the new day", x, NOT_SO, () -> x.followUp(0));
+        CHECK.fails("31: not over the new day", x, Check.NOT_SO, () -> x.followUp(0));
         x.pass(61);
         CHECK.is("31: ignored", x.followUp(0), 0);
         CHECK.is("31: i", x.state(0), 'i');
         CHECK.is("31: joined one, too", x.state(1), 'i');
         CHECK.is("31: the remedy stays", x.remedy(0), 2);
-        CHECK.fails("31: a third time", x, NOT_SO, () -> x.followUp(0));
+        CHECK.fails("31: a third time", x, Check.NOT_SO, () -> x.followUp(0));
         GrievanceOmbud y = Scene.decided(5, 1, 0);
         y.pass(400);
-        CHECK.fails("31: unfounded", y, NOT_SO, () -> y.followUp(0));
+        CHECK.fails("31: unfounded", y, Check.NOT_SO, () -> y.followUp(0));
     }
 
     private static void promise31TopOfTheLadder() {
@@ -290,13 +284,13 @@ public final class FindingsTest {
         x.complain(0, 0, 0, 0);
         x.complain(0, 0, 0, 0);
         x.examine(2);
-        CHECK.fails("32: -1", x, NO_SUCH, () -> x.withdraw(-1));
-        CHECK.fails("32: 3", x, NO_SUCH, () -> x.withdraw(3));
+        CHECK.fails("32: -1", x, Check.NO_SUCH, () -> x.withdraw(-1));
+        CHECK.fails("32: 3", x, Check.NO_SUCH, () -> x.withdraw(3));
         CHECK.is("32: new", x.withdraw(1), 0);
         CHECK.is("32: first step lacking", x.withdraw(2), 0);
         CHECK.is("32: received", x.withdraw(0), 0);
         CHECK.is("32: w", x.countState('w'), 3);
-        CHECK.fails("32: twice", x, NOT_SO, () -> x.withdraw(0));
+        CHECK.fails("32: twice", x, Check.NOT_SO, () -> x.withdraw(0));
         GrievanceOmbud y = Scene.asked(5, 1);
         CHECK.is("32: asked", y.withdraw(0), 0);
         GrievanceOmbud z = Scene.studied(5, 1);
@@ -308,7 +302,7 @@ public final class FindingsTest {
 
     private static void promise32Joined() {
         GrievanceOmbud x = Scene.decided(5, 4, 1);
-        CHECK.fails("32: joined", x, NOT_SO, () -> x.withdraw(1));
+        CHECK.fails("32: joined", x, Check.NOT_SO, () -> x.withdraw(1));
         CHECK.is("32: three received anew", x.withdraw(0), 3);
         CHECK.is("32: r", x.countState('r'), 3);
         CHECK.is("32: leads itself", x.lead(3), 3);
@@ -328,24 +322,24 @@ public final class FindingsTest {
 
     private static void promise32Refused() {
         GrievanceOmbud x = Scene.decided(5, 1, 0);
-        CHECK.fails("32: unfounded", x, NOT_SO, () -> x.withdraw(0));
+        CHECK.fails("32: unfounded", x, Check.NOT_SO, () -> x.withdraw(0));
         GrievanceOmbud y = Scene.decided(5, 1, 1);
         y.heed(0);
-        CHECK.fails("32: heeded", y, NOT_SO, () -> y.withdraw(0));
+        CHECK.fails("32: heeded", y, Check.NOT_SO, () -> y.withdraw(0));
         GrievanceOmbud z = Scene.decided(5, 1, 1);
         z.pass(31);
         z.followUp(0);
         z.pass(61);
         z.followUp(0);
-        CHECK.fails("32: ignored", z, NOT_SO, () -> z.withdraw(0));
+        CHECK.fails("32: ignored", z, Check.NOT_SO, () -> z.withdraw(0));
         GrievanceOmbud v = new GrievanceOmbud();
         v.addOffice(1, 1);
         v.complain(0, 1, 0, 0);
         v.examine(0);
-        CHECK.fails("32: outside", v, NOT_SO, () -> v.withdraw(0));
+        CHECK.fails("32: outside", v, Check.NOT_SO, () -> v.withdraw(0));
         v.pass(366);
         v.complain(0, 0, 0, 0);
         v.examine(1);
-        CHECK.fails("32: late", v, NOT_SO, () -> v.withdraw(1));
+        CHECK.fails("32: late", v, Check.NOT_SO, () -> v.withdraw(1));
     }
 }

@@ -1,9 +1,5 @@
 /** Promises 1 to 12: offices, days, complaints and their intake. */
 public final class OfficesTest {
-    private static final Class<IndexOutOfBoundsException> NO_SUCH = IndexOutOfBoundsException.class;
-    private static final Class<IllegalArgumentException> RANGE = IllegalArgumentException.class;
-    private static final Class<IllegalStateException> FULL = IllegalStateException.class;
-    private static final Class<UnsupportedOperationException> NOT_SO = UnsupportedOperationException.class;
     private static final int LEAST = Integer.MIN_VALUE;
     private static final int MOST = Integer.MAX_VALUE;
     private static final Check CHECK = new Check("OfficesTest");
@@ -32,8 +28,8 @@ public final class OfficesTest {
         CHECK.is("1: checksum", x.checksum(), 217);
         CHECK.is("1: new ones", x.countState('n'), 0);
         CHECK.is("1: sound", x.isSound(), true);
-        CHECK.fails("1: no complaint 0", x, NO_SUCH, () -> x.state(0));
-        CHECK.fails("1: no office 0", x, NO_SUCH, () -> x.heededShare(0));
+        CHECK.fails("1: no complaint 0", x, Check.NO_SUCH, () -> x.state(0));
+        CHECK.fails("1: no office 0", x, Check.NO_SUCH, () -> x.heededShare(0));
         for (int head = 0; head < 5; head++) {
             CHECK.is("1: weight", x.setWeight(head, 1), 1);
         }
@@ -41,37 +37,37 @@ public final class OfficesTest {
 
     private static void promise2() {
         GrievanceOmbud x = new GrievanceOmbud();
-        CHECK.fails("2: no days", x, RANGE, () -> x.addOffice(0, 0));
-        CHECK.fails("2: 61 days", x, RANGE, () -> x.addOffice(61, 0));
-        CHECK.fails("2: least days", x, RANGE, () -> x.addOffice(LEAST, 0));
-        CHECK.fails("2: most days", x, RANGE, () -> x.addOffice(MOST, 0));
-        CHECK.fails("2: matters -1", x, RANGE, () -> x.addOffice(1, -1));
-        CHECK.fails("2: matters 1024", x, RANGE, () -> x.addOffice(1, 1024));
+        CHECK.fails("2: no days", x, Check.RANGE, () -> x.addOffice(0, 0));
+        CHECK.fails("2: 61 days", x, Check.RANGE, () -> x.addOffice(61, 0));
+        CHECK.fails("2: least days", x, Check.RANGE, () -> x.addOffice(LEAST, 0));
+        CHECK.fails("2: most days", x, Check.RANGE, () -> x.addOffice(MOST, 0));
+        CHECK.fails("2: matters -1", x, Check.RANGE, () -> x.addOffice(1, -1));
+        CHECK.fails("2: matters 1024", x, Check.RANGE, () -> x.addOffice(1, 1024));
         CHECK.is("2: first", x.addOffice(1, 0), 0);
         CHECK.is("2: second", x.addOffice(60, 1023), 1);
         for (int i = 2; i < 6; i++) {
             CHECK.is("2: further", x.addOffice(5, 1), i);
         }
-        CHECK.fails("2: seventh", x, FULL, () -> x.addOffice(5, 1));
-        CHECK.fails("2: range ahead of full", x, RANGE, () -> x.addOffice(0, 1));
+        CHECK.fails("2: seventh", x, Check.FULL, () -> x.addOffice(5, 1));
+        CHECK.fails("2: range ahead of full", x, Check.RANGE, () -> x.addOffice(0, 1));
     }
 
     private static void promise3() {
         GrievanceOmbud x = new GrievanceOmbud();
-        CHECK.fails("3: 0", x, RANGE, () -> x.pass(0));
-        CHECK.fails("3: 401", x, RANGE, () -> x.pass(401));
-        CHECK.fails("3: least", x, RANGE, () -> x.pass(LEAST));
-        CHECK.fails("3: most", x, RANGE, () -> x.pass(MOST));
+        CHECK.fails("3: 0", x, Check.RANGE, () -> x.pass(0));
+        CHECK.fails("3: 401", x, Check.RANGE, () -> x.pass(401));
+        CHECK.fails("3: least", x, Check.RANGE, () -> x.pass(LEAST));
+        CHECK.fails("3: most", x, Check.RANGE, () -> x.pass(MOST));
         CHECK.is("3: 1", x.pass(1), 1);
         CHECK.is("3: 400", x.pass(400), 401);
         for (int i = 0; i < 23; i++) {
             x.pass(400);
         }
         CHECK.is("3: day so far", x.today(), 9601);
-        CHECK.fails("3: day 10000", x, FULL, () -> x.pass(399));
+        CHECK.fails("3: day 10000", x, Check.FULL, () -> x.pass(399));
         CHECK.is("3: day 9999", x.pass(398), 9999);
-        CHECK.fails("3: one more", x, FULL, () -> x.pass(1));
-        CHECK.fails("3: range ahead of last day", x, RANGE, () -> x.pass(401));
+        CHECK.fails("3: one more", x, Check.FULL, () -> x.pass(1));
+        CHECK.fails("3: range ahead of last day", x, Check.RANGE, () -> x.pass(401));
     }
 
     private static void promise4() {
@@ -85,34 +81,34 @@ public final class OfficesTest {
 
     private static void promise5() {
         GrievanceOmbud x = new GrievanceOmbud();
-        CHECK.fails("5: no office yet", x, NO_SUCH, () -> x.complain(0, 0, 0, 0));
+        CHECK.fails("5: no office yet", x, Check.NO_SUCH, () -> x.complain(0, 0, 0, 0));
         x.addOffice(1, 1);
         x.addOffice(1, 1);
         x.pass(5);
-        CHECK.fails("5: office -1", x, NO_SUCH, () -> x.complain(-1, 0, 0, 0));
-        CHECK.fails("5: office 2, ahead of range", x, NO_SUCH, () -> x.complain(2, 10, 50, 6));
-        CHECK.fails("5: matter -1", x, RANGE, () -> x.complain(0, -1, 0, 0));
-        CHECK.fails("5: matter 10", x, RANGE, () -> x.complain(0, 10, 0, 0));
-        CHECK.fails("5: person -1", x, RANGE, () -> x.complain(0, 0, -1, 0));
-        CHECK.fails("5: person 50", x, RANGE, () -> x.complain(0, 0, 50, 0));
-        CHECK.fails("5: happened -1", x, RANGE, () -> x.complain(0, 0, 0, -1));
-        CHECK.fails("5: happened tomorrow", x, RANGE, () -> x.complain(0, 0, 0, 6));
+        CHECK.fails("5: office -1", x, Check.NO_SUCH, () -> x.complain(-1, 0, 0, 0));
+        CHECK.fails("5: office 2, ahead of range", x, Check.NO_SUCH, () -> x.complain(2, 10, 50, 6));
+        CHECK.fails("5: matter -1", x, Check.RANGE, () -> x.complain(0, -1, 0, 0));
+        CHECK.fails("5: matter 10", x, Check.RANGE, () -> x.complain(0, 10, 0, 0));
+        CHECK.fails("5: person -1", x, Check.RANGE, () -> x.complain(0, 0, -1, 0));
+        CHECK.fails("5: person 50", x, Check.RANGE, () -> x.complain(0, 0, 50, 0));
+        CHECK.fails("5: happened -1", x, Check.RANGE, () -> x.complain(0, 0, 0, -1));
+        CHECK.fails("5: happened tomorrow", x, Check.RANGE, () -> x.complain(0, 0, 0, 6));
         CHECK.is("5: first, of today", x.complain(0, 0, 0, 5), 0);
         CHECK.is("5: second, not within reach", x.complain(1, 9, 49, 0), 1);
         CHECK.is("5: both are new", x.countState('n'), 2);
         for (int i = 2; i < 20; i++) {
             CHECK.is("5: further", x.complain(0, 0, 0, 0), i);
         }
-        CHECK.fails("5: full", x, FULL, () -> x.complain(0, 0, 0, 0));
-        CHECK.fails("5: office ahead of full", x, NO_SUCH, () -> x.complain(2, 0, 0, 0));
-        CHECK.fails("5: range ahead of full", x, RANGE, () -> x.complain(0, 0, 0, 6));
+        CHECK.fails("5: full", x, Check.FULL, () -> x.complain(0, 0, 0, 0));
+        CHECK.fails("5: office ahead of full", x, Check.NO_SUCH, () -> x.complain(2, 0, 0, 0));
+        CHECK.fails("5: range ahead of full", x, Check.RANGE, () -> x.complain(0, 0, 0, 6));
     }
 
     private static void promise6() {
         GrievanceOmbud x = Scene.office(1);
         x.complain(0, 0, 0, 0);
-        CHECK.fails("6: -1", x, NO_SUCH, () -> x.setCourt(-1, true));
-        CHECK.fails("6: 1", x, NO_SUCH, () -> x.setCourt(1, true));
+        CHECK.fails("6: -1", x, Check.NO_SUCH, () -> x.setCourt(-1, true));
+        CHECK.fails("6: 1", x, Check.NO_SUCH, () -> x.setCourt(1, true));
         CHECK.is("6: had not", x.setCourt(0, false), false);
         CHECK.is("6: has", x.setCourt(0, true), false);
         CHECK.is("6: had", x.setCourt(0, true), true);
@@ -120,9 +116,9 @@ public final class OfficesTest {
         CHECK.is("6: f behind that", x.examine(0), 'f');
         CHECK.is("6: has, first step lacking", x.setCourt(0, true), false);
         CHECK.is("6: o behind that", x.examine(0), 'o');
-        CHECK.fails("6: closed", x, NOT_SO, () -> x.setCourt(0, false));
+        CHECK.fails("6: closed", x, Check.NOT_SO, () -> x.setCourt(0, false));
         GrievanceOmbud y = Scene.received(1, 1);
-        CHECK.fails("6: received", y, NOT_SO, () -> y.setCourt(0, true));
+        CHECK.fails("6: received", y, Check.NOT_SO, () -> y.setCourt(0, true));
     }
 
     private static void promise7() {
@@ -131,12 +127,12 @@ public final class OfficesTest {
         x.complain(0, 0, 0, 0);
         x.takeStep(0);
         x.pass(1);
-        CHECK.fails("7: -1", x, NO_SUCH, () -> x.excuse(-1));
-        CHECK.fails("7: 1", x, NO_SUCH, () -> x.excuse(1));
+        CHECK.fails("7: -1", x, Check.NO_SUCH, () -> x.excuse(-1));
+        CHECK.fails("7: 1", x, Check.NO_SUCH, () -> x.excuse(1));
         CHECK.is("7: none before", x.excuse(0), false);
         CHECK.is("7: told for good", x.excuse(0), true);
         CHECK.is("7: not late then", x.examine(0), 'r');
-        CHECK.fails("7: received", x, NOT_SO, () -> x.excuse(0));
+        CHECK.fails("7: received", x, Check.NOT_SO, () -> x.excuse(0));
         x.complain(0, 0, 0, 401);
         x.examine(1);
         CHECK.is("7: first step lacking", x.excuse(1), false);
@@ -147,19 +143,19 @@ public final class OfficesTest {
         x.pass(5);
         x.complain(0, 0, 0, 0);
         x.complain(0, 0, 0, 0);
-        CHECK.fails("8: -1", x, NO_SUCH, () -> x.takeStep(-1));
-        CHECK.fails("8: 2", x, NO_SUCH, () -> x.takeStep(2));
+        CHECK.fails("8: -1", x, Check.NO_SUCH, () -> x.takeStep(-1));
+        CHECK.fails("8: 2", x, Check.NO_SUCH, () -> x.takeStep(2));
         CHECK.is("8: day", x.takeStep(0), 12);
-        CHECK.fails("8: twice", x, NOT_SO, () -> x.takeStep(0));
+        CHECK.fails("8: twice", x, Check.NOT_SO, () -> x.takeStep(0));
         x.examine(1);
         x.pass(2);
         CHECK.is("8: first step lacking", x.takeStep(1), 14);
         x.setCourt(1, true);
         x.examine(1);
-        CHECK.fails("8: closed", x, NOT_SO, () -> x.takeStep(1));
+        CHECK.fails("8: closed", x, Check.NOT_SO, () -> x.takeStep(1));
         x.complain(0, 0, 0, 0);
         x.withdraw(2);
-        CHECK.fails("8: closed without one", x, NOT_SO, () -> x.takeStep(2));
+        CHECK.fails("8: closed without one", x, Check.NOT_SO, () -> x.takeStep(2));
     }
 
     private static void promise9Order() {
@@ -203,22 +199,22 @@ public final class OfficesTest {
 
     private static void promise9Refused() {
         GrievanceOmbud x = Scene.received(2, 1);
-        CHECK.fails("9: -1", x, NO_SUCH, () -> x.examine(-1));
-        CHECK.fails("9: 1", x, NO_SUCH, () -> x.examine(1));
-        CHECK.fails("9: received", x, NOT_SO, () -> x.examine(0));
+        CHECK.fails("9: -1", x, Check.NO_SUCH, () -> x.examine(-1));
+        CHECK.fails("9: 1", x, Check.NO_SUCH, () -> x.examine(1));
+        CHECK.fails("9: received", x, Check.NOT_SO, () -> x.examine(0));
         x.ask(0);
-        CHECK.fails("9: asked", x, NOT_SO, () -> x.examine(0));
+        CHECK.fails("9: asked", x, Check.NOT_SO, () -> x.examine(0));
         x.answer(0);
-        CHECK.fails("9: studied", x, NOT_SO, () -> x.examine(0));
+        CHECK.fails("9: studied", x, Check.NOT_SO, () -> x.examine(0));
         x.find(0, 0);
-        CHECK.fails("9: unfounded", x, NOT_SO, () -> x.examine(0));
+        CHECK.fails("9: unfounded", x, Check.NOT_SO, () -> x.examine(0));
     }
 
     private static void promise10() {
         GrievanceOmbud x = Scene.office(1);
         x.complain(0, 0, 0, 0);
-        CHECK.fails("10: -1", x, NO_SUCH, () -> x.state(-1));
-        CHECK.fails("10: 1", x, NO_SUCH, () -> x.state(1));
+        CHECK.fails("10: -1", x, Check.NO_SUCH, () -> x.state(-1));
+        CHECK.fails("10: 1", x, Check.NO_SUCH, () -> x.state(1));
         CHECK.is("10: n", x.state(0), 'n');
         x.examine(0);
         CHECK.is("10: f", x.state(0), 'f');
@@ -241,9 +237,9 @@ public final class OfficesTest {
         String none = "xNbceg \u00ff\uffff";
         for (int i = 0; i < none.length(); i++) {
             char state = none.charAt(i);
-            CHECK.fails("11: " + (int) state, x, RANGE, () -> x.countState(state));
+            CHECK.fails("11: " + (int) state, x, Check.RANGE, () -> x.countState(state));
         }
-        CHECK.fails("11: 0", x, RANGE, () -> x.countState((char) 0));
+        CHECK.fails("11: 0", x, Check.RANGE, () -> x.countState((char) 0));
         String all = "nfrasdoluhiw";
         for (int i = 0; i < all.length(); i++) {
             CHECK.is("11: none so far", x.countState(all.charAt(i)), 0);
@@ -259,8 +255,8 @@ public final class OfficesTest {
 
     private static void promise12() {
         GrievanceOmbud x = Scene.office(1);
-        CHECK.fails("12: -1", x, RANGE, () -> x.countOf(-1));
-        CHECK.fails("12: 50", x, RANGE, () -> x.countOf(50));
+        CHECK.fails("12: -1", x, Check.RANGE, () -> x.countOf(-1));
+        CHECK.fails("12: 50", x, Check.RANGE, () -> x.countOf(50));
         CHECK.is("12: none", x.countOf(0), 0);
         x.complain(0, 0, 0, 0);
         x.complain(0, 1, 49, 0);

@@ -61,4 +61,39 @@ final class Scene {
         }
         return x;
     }
+
+    /** As silent; then the silence is taken as it is. */
+    static GrievanceOmbud studiedBySilence(int days, int complaints) {
+        GrievanceOmbud x = silent(days, complaints);
+        x.takeSilence(0);
+        return x;
+    }
+
+    /** One complaint, decided on the day 5 with that remedy, by the least sum that leads to it. */
+    static GrievanceOmbud withRemedy(int remedy) {
+        int[] leastSums = {0, 1, 4, 10, 16};
+        GrievanceOmbud x = studied(5, 1);
+        x.find(0, spread(x, leastSums[remedy]));
+        return x;
+    }
+
+    /** Weighs the heads so that some of them make that sum, 1 to 45, and tells which, as bits. */
+    static int spread(GrievanceOmbud x, int sum) {
+        int heads = 0;
+        int rest = sum;
+        for (int head = 0; head < 5 && rest > 0; head++) {
+            int weight = Math.min(rest, 9);
+            x.setWeight(head, weight);
+            heads |= 1 << head;
+            rest -= weight;
+        }
+        return heads;
+    }
+
+    /** Lets days pass until it is that day. */
+    static void until(GrievanceOmbud x, int day) {
+        while (x.today() < day) {
+            x.pass(Math.min(400, day - x.today()));
+        }
+    }
 }
