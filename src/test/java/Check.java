@@ -107,7 +107,6 @@ final class Check {
             List<Field> fields = new ArrayList<>();
             for (Field field : unknown.getDeclaredFields()) {
                 if (!Modifier.isStatic(field.getModifiers())) {
-                    field.setAccessible(true);
                     fields.add(field);
                 }
             }
@@ -115,8 +114,9 @@ final class Check {
         });
     }
 
-    private static Object get(Field field, Object x) {
+    static Object get(Field field, Object x) {
         try {
+            field.setAccessible(true);
             return field.get(x);
         } catch (IllegalAccessException e) {
             throw new IllegalStateException(e);

@@ -1,8 +1,15 @@
+import java.lang.reflect.Array;
 import java.lang.reflect.Constructor;
+import java.lang.reflect.Field;
 import java.lang.reflect.Method;
 import java.lang.reflect.Modifier;
 import java.nio.file.Files;
 import java.nio.file.Path;
+import java.util.ArrayList;
+import java.util.Arrays;
+import java.util.Collections;
+import java.util.IdentityHashMap;
+import java.util.List;
 import java.util.Set;
 import java.util.TreeSet;
 import java.util.regex.Matcher;
@@ -55,7 +62,10 @@ public final class FaceTest {
         CHECK.is("public and final", face.getModifiers(), Modifier.PUBLIC | Modifier.FINAL);
         methods(face);
         members(face);
+        sizes(face);
         source(Files.readString(Path.of(args[0])));
+        methodLengths(Files.readAllLines(Path.of(args[0])));
+        room();
         CHECK.end();
     }
 
@@ -89,7 +99,7 @@ public final class FaceTest {
         CHECK.is("constructors", constructors.length, 1);
         CHECK.is("its numbers", constructors[0].getParameterCount(), 0);
         CHECK.is("it is public", constructors[0].getModifiers(), Modifier.PUBLIC);
-        for (java.lang.reflect.Field field : face.getDeclaredFields()) {
+        for (Field field : face.getDeclaredFields()) {
             CHECK.is("private: " + field.getName(), Modifier.isPrivate(field.getModifiers()), true);
         }
         for (Class<?> inside : face.getDeclaredClasses()) {
@@ -98,6 +108,67 @@ public final class FaceTest {
             CHECK.is("hidden: " + inside, Modifier.isPublic(modifiers) || Modifier.isProtected(modifiers), false);
         }
         CHECK.is("at most twelve classes", face.getDeclaredClasses().length <= 11, true);
+    }
+
+    /** Rule 5: what is static is final; rule 11: seven parameters at most, and some twenty fields. */
+    private static void sizes(Class<?> face) {
+        List<Class<?>> all = new ArrayList<>(Arrays.asList(face.getDeclaredClasses()));
+        all.add(face);
+        for (Class<?> type : all) {
+            int fields = 0;
+            for (Field field : type.getDeclaredFields()) {
+                boolean fixed = Modifier.isStatic(field.getModifiers());
+                fields += fixed ? 0 : 1;
+                CHECK.is(field + " is static, and not final", fixed && !Modifier.isFinal(field.getModifiers()), false);
+            }
+            CHECK.is("fields of " + type.getSimpleName() + ": " + fields, fields <= 20, true);
+            for (Method method : type.getDeclaredMethods()) {
+                CHECK.is(method.getName() + " has seven parameters at most", method.getParameterCount() <= 7, true);
+            }
+        }
+    }
+
+    /** Rule 11: methods stay short. */
+    private static void methodLengths(List<String> lines) {
+        Pattern beginning = Pattern.compile("( +)(public|private) [^=;]*\\(.*");
+        int methods = 0;
+        for (int i = 0; i < lines.size(); i++) {
+            Matcher matcher = beginning.matcher(lines.get(i));
+            if (matcher.matches()) {
+                int length = lines.subList(i, lines.size()).indexOf(matcher.group(1) + "}");
+                CHECK.is("sixty lines at most: " + lines.get(i).trim(), length > 0 && length < 60, true);
+                methods++;
+            }
+        }
+        CHECK.is("methods were found", methods > 40, true);
+    }
+
+    /** "All calls of one run live in ONE room": 512 objects made anew must fit in it. */
+    private static void room() {
+        Set<Object> seen = Collections.newSetFromMap(new IdentityHashMap<>());
+        long elements = countParts(new GrievanceOmbud(), seen);
+        CHECK.is("512 times " + seen.size() + " objects and arrays", 512 * seen.size() < 600_000, true);
+        CHECK.is("512 times " + elements + " fields and elements", 512 * elements < 7_300_000, true);
+    }
+
+    private static long countParts(Object x, Set<Object> seen) {
+        if (x == null || x instanceof Number || x instanceof Boolean || x instanceof Character || !seen.add(x)) {
+            return 0;
+        }
+        if (x.getClass().isArray()) {
+            long count = Array.getLength(x);
+            for (int i = 0; i < Array.getLength(x); i++) {
+                count += countParts(Array.get(x, i), seen);
+            }
+            return count;
+        }
+        long count = 0;
+        for (Field field : x.getClass().getDeclaredFields()) {
+            if (!Modifier.isStatic(field.getModifiers())) {
+                count += 1 + countParts(Check.get(field, x), seen);
+            }
+        }
+        return count;
     }
 
     private static void source(String text) {

@@ -1,5 +1,6 @@
 import java.lang.reflect.Array;
 import java.lang.reflect.Field;
+import java.lang.reflect.Method;
 import java.util.NoSuchElementException;
 
 /** Promises 33 to 37: clocks, shares, the mean, the checksum and soundness. */
@@ -277,6 +278,7 @@ public final class FiguresTest {
         GrievanceOmbud y = Scene.decided(5, 1, 0);
         set(row(y, "complaints", 0), "closedDay", -1);
         CHECK.is("37: no day of closing", y.isSound(), false);
+        CHECK.is("37: no day of closing, though nothing were told again", isOrderly(y), false);
         for (String name : new String[] {"days", "matters", "remediesTold", "remediesHeeded"}) {
             GrievanceOmbud z = Scene.decided(5, 1, 1);
             set(row(z, "offices", 0), name, 2);
@@ -287,9 +289,11 @@ public final class FiguresTest {
             set(get(z, "book"), name, 0);
             CHECK.is("37: " + name, z.isSound(), false);
         }
-        GrievanceOmbud v = new GrievanceOmbud();
-        Array.set(get(get(v, "book"), "weights"), 4, 2);
-        CHECK.is("37: a weight", v.isSound(), false);
+        for (int head = 0; head < 5; head++) {
+            GrievanceOmbud v = new GrievanceOmbud();
+            Array.set(get(get(v, "book"), "weights"), head, 2);
+            CHECK.is("37: the weight of " + head, v.isSound(), false);
+        }
     }
 
     private static void tamperedParts() throws ReflectiveOperationException {
@@ -314,21 +318,23 @@ public final class FiguresTest {
     /** The event is changed along with what stands, so that only the look at leads can tell. */
     private static void promise37TamperedTwice() throws ReflectiveOperationException {
         for (String name : new String[] {"office", "matter"}) {
-            GrievanceOmbud x = new GrievanceOmbud();
-            x.addOffice(5, 1023);
-            x.addOffice(5, 1023);
-            x.complain(0, 0, 0, 0);
-            x.complain(0, 0, 1, 0);
-            x.takeStep(0);
-            x.takeStep(1);
-            x.pass(5);
-            x.examine(0);
-            x.examine(1);
-            x.join(1, 0);
-            set(row(x, "complaints", 1), name, 1);
-            int at = 3 * 5 + (name.equals("office") ? 1 : 2);
-            Array.set(get(get(x, "events"), "rows"), at, 1);
-            CHECK.is("37: another " + name + " than the lead's", x.isSound(), false);
+            for (int joined = 0; joined < 2; joined++) {
+                GrievanceOmbud x = new GrievanceOmbud();
+                x.addOffice(5, 1023);
+                x.addOffice(5, 1023);
+                x.complain(0, 0, 0, 0);
+                x.complain(0, 0, 1, 0);
+                x.takeStep(0);
+                x.takeStep(1);
+                x.pass(5);
+                x.examine(0);
+                x.examine(1);
+                x.join(joined, 1 - joined);
+                set(row(x, "complaints", joined), name, 1);
+                int at = (2 + joined) * 5 + (name.equals("office") ? 1 : 2);
+                Array.set(get(get(x, "events"), "rows"), at, 1);
+                CHECK.is("37: another " + name + " than the lead's", x.isSound(), false);
+            }
         }
     }
 
@@ -383,6 +389,14 @@ public final class FiguresTest {
         } catch (NoSuchElementException e) {
             CHECK.is("and one behind it", z.today(), 0);
         }
+    }
+
+    /** The part of isSound that tells nothing again: no run of calls, and no change of one row, gets by the rest. */
+    private static boolean isOrderly(GrievanceOmbud x) throws ReflectiveOperationException {
+        Object book = get(x, "book");
+        Method method = book.getClass().getDeclaredMethod("isOrderly");
+        method.setAccessible(true);
+        return (Boolean) method.invoke(book);
     }
 
     private static Object row(GrievanceOmbud x, String rows, int number) throws ReflectiveOperationException {
